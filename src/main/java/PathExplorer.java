@@ -595,7 +595,7 @@ public final class PathExplorer {
             frames.standAt(here + 1);
             raised = NOTHING_RAISED;
             if (operation < Program.GOTO) {
-                work(operation, a);
+                operate(operation, a);
             } else {
                 steer(operation, a, program.b[here]);
             }
@@ -645,7 +645,7 @@ public final class PathExplorer {
         }
 
         /** The operations on the stack and the locals. */
-        private void work(int operation, int a) {
+        private void operate(int operation, int a) {
             switch (operation) {
                 case Program.PUSH:
                     frames.push(a, Frames.PLAIN);
