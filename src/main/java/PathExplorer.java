@@ -391,6 +391,12 @@ public final class PathExplorer {
             return takenSort[i] == BOUND;
         }
 
+        /** The sort of what is made of so many INTS taken. */
+        int sortOfResult(int operands) {
+            boolean bound = takenSort[0] == BOUND || operands == 2 && takenSort[1] == BOUND;
+            return bound ? BOUND : PLAIN;
+        }
+
         void load(int i) {
             int from = (depth - 1) * LOCALS + i;
             push(local[from], localSort[from]);
@@ -514,7 +520,7 @@ public final class PathExplorer {
         }
 
         void add(int event) {
-            pinned = pinned || isPin(event);
+            pinned = pinned || (event & PIN_BIT) != 0;
             if (size < MOST) {
                 events[size] = event;
                 size++;
@@ -733,22 +739,17 @@ public final class PathExplorer {
             if (y == 0) {
                 raised = BY_ZERO;
             } else {
-                frames.push(operation == Program.DIV ? x / y : x % y, sortOfResult(2));
+                frames.push(operation == Program.DIV ? x / y : x % y, frames.sortOfResult(2));
             }
         }
 
         private void calculate(int operation) {
             int x = frames.taken[0];
             if (TAKES[operation] == 1) {
-                frames.push(convert(operation, x), sortOfResult(1));
+                frames.push(convert(operation, x), frames.sortOfResult(1));
             } else {
-                frames.push(combine(operation, x, frames.taken[1]), sortOfResult(2));
+                frames.push(combine(operation, x, frames.taken[1]), frames.sortOfResult(2));
             }
-        }
-
-        private int sortOfResult(int operands) {
-            boolean bound = frames.tookBound(0) || operands == 2 && frames.tookBound(1);
-            return bound ? Frames.BOUND : Frames.PLAIN;
         }
 
         private static int convert(int operation, int x) {
@@ -879,7 +880,7 @@ public final class PathExplorer {
         private void giveBack() {
             frames.leave();
             if (frames.depth > 0) {
-                frames.pushTaken(0);
+                frames.push(frames.taken[0], frames.takenSort[0]);
             } else {
                 outcome = RETURNED;
                 result = frames.taken[0];
@@ -1011,7 +1012,10 @@ public final class PathExplorer {
         }
     }
 
-    /** The WORK, oldest first. No input is WORK twice, as all SIDES on its way are TRIED then. */
+    /**
+     * The WORK, oldest first. No input is WORK twice: only a SIDE that no TEST and no other
+     * WORK has come by is not TRIED yet. So there is a place for each.
+     */
     private static final class Work {
         private final int[] waiting = new int[Inputs.MOST];
         private int oldest = 0;

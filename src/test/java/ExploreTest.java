@@ -1,0 +1,225 @@
+/** Promises 9 to 14: EXPLORING in both ways, COMPLETE, covered and the counts. */
+public final class ExploreTest {
+    public static void main(String[] args) {
+        ways();
+        order();
+        switchSides();
+        leastInput();
+        infeasible();
+        fortyTests();
+        completeness();
+        covered();
+        refusals();
+        anew();
+        Check.end();
+    }
+
+    private static int[] i(int... row) {
+        return row;
+    }
+
+    /** Bits of P, then of Q, each asked by an IF that jumps if it is set; n of them. */
+    private static PathExplorer bits(int n) {
+        PathExplorer x = new PathExplorer();
+        x.method(0, 0, 2);
+        for (int bit = 0; bit < n; bit++) {
+            Check.emit(x, i(1, bit / 4), i(0, 1 << bit % 4), i(8), i(23, 4 * bit + 4, 1));
+        }
+        Check.emit(x, i(0, 1), i(32));
+        x.range(0, 0, 15);
+        x.range(1, 0, 15);
+        return x;
+    }
+
+    private static void dueInputs(String name, PathExplorer x, int way, int... inputs) {
+        Check.due(name + ": explore", x.explore(way), inputs.length / 2);
+        Check.due(name + ": count(2)", x.count(2), inputs.length / 2);
+        for (int n = 0; n < inputs.length; n++) {
+            Check.due(name + ": test(" + n / 2 + ", " + n % 2 + ")", x.test(n / 2, n % 2), inputs[n]);
+        }
+        Check.due(name + ": no further TEST", x.test(inputs.length / 2, 0), PathExplorer.NONE);
+    }
+
+    private static void ways() {
+        PathExplorer x = bits(3);
+        dueInputs("newest first", x, 0, 0, 0, 4, 0, 2, 0, 6, 0, 1, 0, 5, 0, 3, 0, 7, 0);
+        Check.due("most WORK, newest first", x.count(6), 3);
+        Check.due("nothing INFEASIBLE", x.count(3), 0);
+        Check.due("COMPLETE", x.complete(), true);
+        dueInputs("oldest first", x, 1, 0, 0, 1, 0, 2, 0, 4, 0, 3, 0, 5, 0, 6, 0, 7, 0);
+        Check.due("most WORK, oldest first", x.count(6), 4);
+        Check.due("nothing INFEASIBLE", x.count(3), 0);
+        Check.due("COMPLETE", x.complete(), true);
+        PathExplorer none = Check.program(i(0, 5), i(32));
+        dueInputs("no DECISION", none, 0, 0, 0);
+        Check.due("the first input is WORK", none.count(6), 1);
+        Check.due("COMPLETE", none.complete(), true);
+    }
+
+    private static void order() {
+        // Q decides first: the least input by P, then by Q, still has the least P.
+        PathExplorer x = Check.program(i(1, 1), i(1, 0), i(3), i(0, 2), i(24, 5, 0), i(0, 1), i(32));
+        dueInputs("P, then Q", x, 0, 0, 0, 0, 2);
+        x.range(1, 0, 1);
+        dueInputs("a greater P, if there must be", x, 0, 0, 0, 1, 1);
+        x.range(0, -3, 4);
+        x.range(1, -2, 9);
+        dueInputs("below 0", x, 0, -3, -2, -3, 5);
+    }
+
+    private static void switchSides() {
+        PathExplorer x = Check.program(i(1, 0), i(25, 2, 1), i(0), i(0), i(0), i(0, 7), i(32));
+        dueInputs("SIDES from 0 up, oldest first", x, 1, 0, 0, 1, 0, 2, 0, 3, 0);
+        Check.due("three at once", x.count(6), 3);
+        dueInputs("SIDES from 0 up, newest first", x, 0, 0, 0, 3, 0, 2, 0, 1, 0);
+        for (int side = 0; side < 4; side++) {
+            Check.due("SIDE " + side, x.covered(1, side), true);
+        }
+        x.range(0, 0, 2);
+        dueInputs("one SIDE has none", x, 1, 0, 0, 1, 0, 2, 0);
+        Check.due("it is INFEASIBLE", x.count(3), 1);
+        Check.due("it is not covered", x.covered(1, 2), false);
+        Check.due("that is COMPLETE all the same", x.complete(), true);
+    }
+
+    private static void leastInput() {
+        // P > 2, then P even: the other SIDE of the second is asked for behind each of the first.
+        PathExplorer x = Check.program(
+            i(1, 0), i(0, 2), i(24, 3, 4), i(1, 0), i(0, 1), i(8), i(23, 7, 0), i(0), i(32));
+        x.range(0, 0, 15);
+        dueInputs("least behind the EVENTS before", x, 1, 0, 0, 3, 0, 1, 0, 4, 0);
+        x.range(0, 2, 3);
+        dueInputs("only those in the RANGES", x, 1, 2, 0, 3, 0);
+        Check.due("INFEASIBLE behind either", x.count(3), 2);
+        // A PIN is an EVENT before, too: with another one it is another way.
+        PathExplorer pins = Check.program(
+            i(1, 0), i(26), i(21), i(1, 1), i(23, 5), i(0), i(32));
+        pins.range(0, -1, 3);
+        dueInputs("PINS are not turned round", pins, 0, -1, 0, 0, 0, 0, 1);
+        Check.due("nothing INFEASIBLE", pins.count(3), 0);
+    }
+
+    private static void infeasible() {
+        PathExplorer x = Check.program(i(1, 0), i(23, 2, 2), i(1, 0), i(23, 4, 2), i(0), i(32));
+        Check.due("one way", x.explore(0), 1);
+        Check.due("two INFEASIBLE", x.count(3), 2);
+        x.range(0, -1, 0);
+        Check.due("two ways", x.explore(0), 2);
+        Check.due("each with one INFEASIBLE", x.count(3), 2);
+        x.range(0, -1, -1);
+        Check.due("one way", x.explore(1), 1);
+        Check.due("two INFEASIBLE", x.count(3), 2);
+    }
+
+    private static void fortyTests() {
+        PathExplorer x = bits(6);
+        Check.due("40 of 64", x.explore(0), 40);
+        Check.due("WORK is left", x.complete(), false);
+        Check.due("TEST 39", x.test(39, 4), 6);
+        Check.due("no TEST 40", x.test(40, 0), PathExplorer.NONE);
+        Check.due("40 of 64, oldest first", x.explore(1), 40);
+        Check.due("WORK is left", x.complete(), false);
+        Check.due("most WORK, oldest first", x.count(6), 23);
+        Check.due("32 of 32", bits(5).explore(0), 32);
+        PathExplorer exact = new PathExplorer();
+        exact.method(0, 0, 2);
+        exact.range(0, 0, 15);
+        Check.emit(exact, i(1, 1), i(23, 24, 0));
+        for (int bit = 0; bit < 4; bit++) {
+            Check.emit(exact, i(1, 0), i(0, 1 << bit), i(8), i(23, 4 * bit + 6, 1));
+        }
+        Check.emit(exact, i(1, 1), i(0, 2), i(8), i(23, 22, 1), i(0), i(32));
+        for (int bit = 0; bit < 3; bit++) {
+            Check.emit(exact, i(1, 0), i(0, 1 << bit), i(8), i(23, 4 * bit + 28, 1));
+        }
+        Check.emit(exact, i(0), i(32));
+        for (int way = 0; way < 2; way++) {
+            Check.due("8 and 32 ways", exact.explore(way), 40);
+            Check.due("no WORK is left", exact.complete(), true);
+        }
+    }
+
+    private static void completeness() {
+        PathExplorer broken = Check.program(i(1, 0), i(23, 1, 4), i(0), i(32));
+        broken.explore(0);
+        Check.due("BROKEN TESTS may be COMPLETE", broken.complete(), true);
+        PathExplorer loop = Check.program(i(1, 0), i(23, 4, 0), i(0), i(32), i(22, 4));
+        loop.explore(0);
+        Check.due("TIRED is not COMPLETE", loop.complete(), false);
+        loop.range(0, 1, 3);
+        loop.explore(0);
+        Check.due("unless no TEST is", loop.complete(), true);
+        loop.run(0, 0);
+        Check.due("a run call does not count", loop.complete(), true);
+        PathExplorer deep = Check.program(i(1, 0), i(23, 4, 4), i(0), i(32), i(33, 1));
+        deep.method(1, 4, 0);
+        deep.explore(0);
+        Check.due("DEEP is not COMPLETE", deep.complete(), false);
+        PathExplorer limit = Check.program(i(1, 0), i(23, 4, 4), i(0), i(32), i(0, 9), i(26));
+        limit.explore(0);
+        Check.due("LIMIT is not COMPLETE", limit.complete(), false);
+        PathExplorer thrown = Check.program(i(1, 0), i(23, 4, 4), i(0), i(32), i(31, 5));
+        thrown.explore(0);
+        Check.due("THROWN may be COMPLETE", thrown.complete(), true);
+        PathExplorer pin = Check.program(i(1, 0), i(23, 4, 4), i(0), i(32), i(1, 0), i(26), i(0), i(32));
+        pin.explore(0);
+        Check.due("a PIN is not COMPLETE", pin.complete(), false);
+        pin.range(0, -3, 0);
+        pin.explore(0);
+        Check.due("unless no TEST has one", pin.complete(), true);
+    }
+
+    private static void covered() {
+        PathExplorer x = Check.program(i(1, 0), i(26), i(21), i(1, 1), i(23, 5, 4), i(0), i(32));
+        x.range(0, 1, 2);
+        x.explore(0);
+        Check.due("the DECISION", x.covered(1, 0), true);
+        Check.due("a PIN with INT 1 is no SIDE 1", x.covered(1, 1), false);
+        Check.due("both SIDES of the IF", x.covered(4, 0) && x.covered(4, 1), true);
+        Check.due("no SIDE 2", x.covered(4, 2), false);
+        Check.due("another instruction", x.covered(3, 0), false);
+        int[] wrong = {Integer.MIN_VALUE, -1, 4, 16, 32, Integer.MAX_VALUE};
+        for (int side : wrong) {
+            Check.due("covered(4, " + side + ")", x.covered(4, side), false);
+        }
+        int[] none = {Integer.MIN_VALUE, -1, 60, 1 << 27, Integer.MAX_VALUE};
+        for (int instruction : none) {
+            Check.due("covered(" + instruction + ", 0)", x.covered(instruction, 0), false);
+        }
+        x.run(-1, 0);
+        Check.due("a run call covers nothing", x.covered(1, 1), false);
+    }
+
+    private static void refusals() {
+        PathExplorer x = bits(2);
+        x.explore(1);
+        int[] wrong = {Integer.MIN_VALUE, -1, 2, Integer.MAX_VALUE};
+        for (int way : wrong) {
+            Check.due("explore(" + way + ")", x.explore(way), PathExplorer.REFUSED);
+        }
+        x.clear();
+        Check.due("without an ENTRY", x.explore(0), PathExplorer.REFUSED);
+        Check.due("the TESTS stay", x.count(2), 4);
+        Check.due("TEST 1 stays", x.test(1, 0), 1);
+        Check.due("COMPLETE stays", x.complete(), true);
+        Check.due("the most WORK stays", x.count(6), 2);
+    }
+
+    private static void anew() {
+        PathExplorer x = bits(6);
+        x.explore(0);
+        x.clear();
+        Check.emit(x, i(1, 0), i(23, 2, 2), i(0), i(32));
+        x.method(0, 0, 2);
+        dueInputs("the last explore alone is told of", x, 0, 0, 0);
+        Check.due("its INFEASIBLE ones", x.count(3), 1);
+        Check.due("its WORK", x.count(6), 1);
+        Check.due("it is COMPLETE", x.complete(), true);
+        Check.due("its DECISION", x.covered(1, 0), true);
+        Check.due("none of the one before", x.covered(3, 0), false);
+        x.range(0, -1, 0);
+        dueInputs("the same PROGRAM is tried anew", x, 0, -1, 0, 0, 0);
+        Check.due("nothing INFEASIBLE", x.count(3), 0);
+        dueInputs("the same again", x, 0, -1, 0, 0, 0);
+    }
+}
