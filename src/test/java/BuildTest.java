@@ -155,6 +155,11 @@ public final class BuildTest {
             Check.i(1, 0), Check.i(0, 3), Check.i(24, 5, 0), Check.i(0, 0), Check.i(32),
             Check.i(1, 1), Check.i(0, 3), Check.i(24, 3, 0), Check.i(0, 1), Check.i(32));
         Check.due("3 for P and Q at first", x.explore(0), 3);
+        for (int local = 0; local < 2; local++) {
+            PathExplorer four = Check.program(
+                Check.i(1, local), Check.i(0, 4), Check.i(24, 3, 0), Check.i(0), Check.i(32));
+            Check.due("but no 4", four.explore(0), 1);
+        }
         Check.due("their ends", x.test(2, 0) * 10 + x.test(2, 1), 33);
         x.range(1, 0, 2);
         Check.due("Q too short", x.explore(0), 2);

@@ -188,6 +188,16 @@ public final class ExploreTest {
         }
         x.run(-1, 0);
         Check.due("a run call covers nothing", x.covered(1, 1), false);
+        PathExplorer ends = new PathExplorer();
+        ends.method(0, 1, 2);
+        Check.emit(ends, i(23, 57, 1), i(1, 0), i(22, 0));
+        for (int n = 3; n < 57; n++) {
+            Check.emit(ends, i(32));
+        }
+        Check.emit(ends, i(0), i(1, 1), i(23, 0, 4));
+        ends.explore(0);
+        Check.due("instruction 0", ends.covered(0, 0) && ends.covered(0, 1), true);
+        Check.due("instruction 59", ends.covered(59, 0) && ends.covered(59, 1), true);
     }
 
     private static void refusals() {
@@ -212,6 +222,10 @@ public final class ExploreTest {
         Check.emit(x, i(1, 0), i(23, 2, 2), i(0), i(32));
         x.method(0, 0, 2);
         dueInputs("the last explore alone is told of", x, 0, 0, 0);
+        for (int k = 1; k < 40; k++) {
+            Check.due("no TEST of the one before", x.test(k, 4), PathExplorer.NONE);
+            Check.due("no EVENT of the one before", x.event(k, 0, 0), PathExplorer.NONE);
+        }
         Check.due("its INFEASIBLE ones", x.count(3), 1);
         Check.due("its WORK", x.count(6), 1);
         Check.due("it is COMPLETE", x.complete(), true);

@@ -23,6 +23,7 @@ public final class RunTest {
         raisingThroughCalls();
         tired();
         brokenStacks();
+        fullStacks();
         brokenSorts();
         brokenPlaces();
         deep();
@@ -314,6 +315,40 @@ public final class RunTest {
         PathExplorer alone = Check.program(
             i(0), i(0), i(0), i(0), i(0), i(0), i(0), i(0, 6), i(32));
         Check.dueRun("RETURN with a full stack of its own", alone, 0, 0, RETURNED, 6, 0, 9);
+    }
+
+    /** What takes as much as it puts, or puts nothing, can be done on a stack of eight. */
+    private static void fullStacks() {
+        int[] operations = {
+            2, 3, 4, 5, 6, 7, 8, 9, 10, 11, 12, 13, 14, 15, 16, 17, 20, 21, 22, 23, 24, 25, 26, 34,
+        };
+        for (int operation : operations) {
+            PathExplorer x = Check.program(
+                i(0, 1), i(0, 1), i(0, 1), i(0, 1), i(0, 1), i(0, 1), i(0, 1), i(0, 1),
+                i(operation, operation >= 22 && operation <= 25 ? 9 : 0), i(22, 10), i(22, 11), i(31, 7));
+            Check.due("operation " + operation + " on a full stack", x.run(0, 0), THROWN);
+            Check.due("operation " + operation + " on a full stack", x.value(), 7);
+        }
+        int[][][] arrays = {
+            {i(0, 1), i(26), i(29)}, {i(30), i(21), i(31, 7)},
+            {i(0, 1), i(26), i(0, 0), i(27)}, {i(0, 1), i(26), i(0, 0), i(0, 5), i(28)},
+        };
+        for (int[][] rows : arrays) {
+            PathExplorer x = new PathExplorer();
+            x.method(0, 0, 2);
+            int below = rows.length == 5 ? 5 : rows.length == 4 ? 6 : 7;
+            for (int n = 0; n < below; n++) {
+                Check.emit(x, i(0, 1));
+            }
+            Check.emit(x, rows);
+            Check.emit(x, i(31, 7));
+            Check.due("arrays on a full stack", x.run(0, 0), THROWN);
+            Check.due("arrays on a full stack", x.value(), 7);
+        }
+        PathExplorer call = Check.program(
+            i(0, 1), i(0, 1), i(0, 1), i(0, 1), i(0, 1), i(0, 1), i(0, 1), i(0, 1), i(33, 1), i(31, 7));
+        call.method(1, 9, 0);
+        Check.dueRun("CALL on a full stack", call, 0, 0, THROWN, 7, 0, 10);
     }
 
     private static void brokenSorts() {
