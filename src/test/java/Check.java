@@ -49,6 +49,21 @@ final class Check {
         return row;
     }
 
+    /** A program that spends so many STEPS (2 or more), none of them an EVENT, before the tail begins. */
+    static PathExplorer delayed(int before, int[]... tail) {
+        PathExplorer x = program(i(0, (before - 2) / 3), i(2, 2), i(34, 2, -1), i(1, 2), i(23, 2, 1));
+        for (int n = 5; n < tailStart(before); n++) {
+            emit(x, i(34, 2, 0));
+        }
+        emit(x, tail);
+        return x;
+    }
+
+    /** The number of the tail's first instruction. */
+    static int tailStart(int before) {
+        return 5 + (before - 2) % 3;
+    }
+
     /** A run's outcome, value, EVENTS and STEPS at once. */
     static void dueRun(String what, PathExplorer x, int p, int q, int outcome, long value, int events, int steps) {
         due(what + ": outcome", x.run(p, q), outcome);

@@ -7,8 +7,12 @@ public final class EventTest {
         divisions();
         arrays();
         boundness();
+        boundCells();
         unbound();
         cutting();
+        cutAtPins();
+        cutWays();
+        facts();
         outOfRange();
         Check.end();
     }
@@ -124,6 +128,10 @@ public final class EventTest {
         PathExplorer call = Check.program(i(1, 0), i(33, 1), i(23, 3), i(0), i(32), i(1, 0), i(23, 7), i(1, 0), i(32));
         call.method(1, 5, 1);
         dueEvents("CALL and RETURN copy it", call, 0, 0, 6, 1, 0, 2, 1, 0);
+    }
+
+    /** "the result of 27 is as the cell", however it was found; a copy of what is pinned stays as it is. */
+    private static void boundCells() {
         PathExplorer cell = Check.program(
             i(0, 2), i(26), i(2, 2), i(1, 2), i(0, 1), i(1, 0), i(28),
             i(1, 2), i(0, 1), i(27), i(23, 11), i(1, 2), i(0, 0), i(27), i(23, 15), i(0), i(32));
@@ -132,11 +140,27 @@ public final class EventTest {
             i(0, 1), i(26), i(2, 2), i(1, 2), i(0), i(1, 0), i(28), i(1, 2), i(0), i(0, 4), i(28),
             i(1, 2), i(0), i(27), i(23, 15), i(0), i(32));
         dueEvents("a plain INT over it", over, 0, 0);
+        PathExplorer pinned = Check.program(
+            i(0, 1), i(26), i(2, 2), i(1, 2), i(1, 0), i(1, 1), i(28),
+            i(1, 2), i(1, 0), i(27), i(23, 11), i(0), i(32));
+        dueEvents("a bound cell at a pinned place", pinned, 0, 5, 6, 0, 0, 6, 0, 1, 9, 0, 0, 9, 0, 1, 10, 0, 0);
+        PathExplorer fresh = Check.program(i(1, 0), i(26), i(0), i(27), i(23, 5), i(0), i(32));
+        dueEvents("a cell of an array of a pinned length", fresh, 1, 0, 1, 0, 0, 1, 1, 1);
+        PathExplorer copy = Check.program(i(1, 0), i(18), i(26), i(21), i(23, 5), i(0), i(32));
+        dueEvents("a copy of what NEW takes", copy, 2, 0, 2, 0, 0, 2, 2, 1, 4, 0, 0);
+        PathExplorer place = Check.program(i(0, 3), i(26), i(1, 0), i(19), i(27), i(21), i(23, 7), i(0), i(32));
+        dueEvents("a copy of what ALOAD takes", place, 2, 0, 4, 0, 0, 4, 2, 1, 6, 0, 0);
     }
 
     private static void unbound() {
         dueEvents("PUSH", Check.program(i(0, 0), i(23, 2), i(0), i(32)), 0, 0);
         dueEvents("local 2", Check.program(i(1, 2), i(23, 2), i(0), i(32)), 0, 0);
+        dueEvents("34 on a plain local", Check.program(i(34, 2, 5), i(1, 2), i(23, 3), i(0), i(32)), 0, 0);
+        dueEvents("a plain INT over P", Check.program(i(0, 5), i(2, 0), i(1, 0), i(23, 4), i(0), i(32)), 0, 0);
+        dueEvents("a plain IFCMP", Check.program(i(0, 5), i(0, 5), i(24, 3), i(0), i(32)), 0, 0);
+        for (int operation = 14; operation <= 17; operation++) {
+            dueEvents("a plain " + operation, Check.program(i(0, 5), i(operation), i(23, 3), i(0), i(32)), 0, 0);
+        }
         dueEvents("a plain SWITCH", Check.program(i(0, 1), i(25, 2, 1), i(0), i(32)), 0, 0);
         dueEvents("a plain NEW", Check.program(i(0, 1), i(26), i(0), i(32)), 0, 0);
         dueEvents("a plain NEW below 0", Check.program(i(0, -1), i(26), i(0), i(32)), 0, 0);
@@ -152,27 +176,94 @@ public final class EventTest {
         dueEvents("what was raised", caught, 0, 0, 2, 1, 0);
     }
 
+    /** P DECISIONS at 2, of which the last has SIDE 0; then the tail, which begins at 3. */
+    private static PathExplorer counting(int[]... tail) {
+        PathExplorer x = Check.program(i(34, 0, -1), i(1, 0), i(23, 0, 4));
+        Check.emit(x, tail);
+        return x;
+    }
+
+    /** "the first 20 of them (a RUN with more is CUT)" */
     private static void cutting() {
-        PathExplorer x = Check.program(i(34, 0, -1), i(1, 0), i(23, 0, 4), i(0, 6), i(32));
-        x.range(0, 20, 20);
-        x.explore(0);
-        Check.due("20 EVENTS", x.test(0, 4), 20);
-        Check.due("are not CUT", x.complete(), true);
-        Check.due("the last of them", x.event(0, 19, 1), 0);
-        x.range(0, 21, 21);
-        x.explore(0);
-        Check.due("of 21 EVENTS, 20", x.test(0, 4), 20);
-        Check.due("it is CUT", x.complete(), false);
-        Check.due("the last that is recorded", x.event(0, 19, 1), 1);
-        Check.due("no 21st", x.event(0, 20, 1), NONE);
-        Check.due("a DECISION that was not recorded is not covered", x.covered(2, 0), false);
-        PathExplorer pin = Check.program(i(34, 0, -1), i(1, 0), i(23, 0, 4), i(1, 1), i(26), i(0), i(32));
-        pin.range(0, 19, 19);
-        pin.explore(0);
-        Check.due("the DECISION is the 20th", pin.event(0, 19, 0), 4);
-        Check.due("and no PIN", pin.event(0, 19, 2), 0);
-        Check.due("the PIN is cut off", pin.test(0, 4), 20);
-        Check.due("so the RUN is CUT", pin.complete(), false);
+        for (int events = 18; events <= 23; events++) {
+            PathExplorer x = counting(i(0, 6), i(32));
+            int recorded = Math.min(events, 20);
+            x.range(0, events, events);
+            x.explore(0);
+            Check.due(events + " EVENTS", x.test(0, 4), recorded);
+            Check.due(events + " EVENTS: outcome", x.test(0, 2), PathExplorer.RETURNED);
+            Check.due(events + " EVENTS: STEPS", x.test(0, 5), 3 * events + 2);
+            Check.due(events + " EVENTS: COMPLETE", x.complete(), events <= 20);
+            Check.due(events + " EVENTS: SIDE 0", x.covered(2, 0), events <= 20);
+            for (int n = 0; n < 22; n++) {
+                Check.due(events + " EVENTS: event(0, " + n + ", 1)", x.event(0, n, 1),
+                    n >= recorded ? NONE : n == events - 1 ? 0 : 1);
+                Check.due(events + " EVENTS: event(0, " + n + ", 2)", x.event(0, n, 2), n >= recorded ? NONE : 0);
+            }
+            x.run(events, 0);
+            Check.due(events + " EVENTS in a run", x.count(4), recorded);
+        }
+    }
+
+    /** The 20th EVENT may be a PIN, or be the DECISION whose PIN is the 21st. */
+    private static void cutAtPins() {
+        for (int before = 17; before <= 20; before++) {
+            PathExplorer x = counting(i(1, 1), i(26), i(0), i(32));
+            x.range(0, before, before);
+            x.range(1, 7, 7);
+            x.explore(0);
+            Check.due("NEW behind " + before + ": EVENTS", x.test(0, 4), Math.min(before + 2, 20));
+            Check.due("NEW behind " + before + ": the DECISION", x.event(0, before, 0), before < 20 ? 4 : NONE);
+            Check.due("NEW behind " + before + ": no PIN", x.event(0, before, 2), before < 20 ? 0 : NONE);
+            Check.due("NEW behind " + before + ": the PIN", x.event(0, before + 1, 2), before < 19 ? 1 : NONE);
+            Check.due("NEW behind " + before + ": its INT", x.event(0, before + 1, 1), before < 19 ? 7 : NONE);
+            Check.due("NEW behind " + before + ": covered", x.covered(4, 0), before < 20);
+            Check.due("NEW behind " + before + ": COMPLETE", x.complete(), false);
+        }
+        PathExplorer below = counting(i(1, 1), i(26), i(0), i(32));
+        below.range(0, 19, 19);
+        below.range(1, -1, -1);
+        below.explore(0);
+        Check.due("without a PIN it is not CUT", below.complete(), true);
+    }
+
+    /** The 20th EVENT is turned round, what is not recorded is not. */
+    private static void cutWays() {
+        PathExplorer x = counting(i(0, 6), i(32));
+        x.range(0, 20, 22);
+        Check.due("the 20th DECISION has another SIDE", x.explore(0), 2);
+        Check.due("its input", x.test(1, 0), 21);
+        Check.due("SIDE 0 of those before is INFEASIBLE", x.count(3), 19);
+        Check.due("the other is CUT", x.complete(), false);
+        x.range(0, 21, 22);
+        Check.due("the 21st has none", x.explore(0), 1);
+        Check.due("SIDE 0 of all is INFEASIBLE", x.count(3), 20);
+        x.range(0, 19, 20);
+        Check.due("two that are not CUT", x.explore(0), 2);
+        Check.due("so all is COMPLETE", x.complete(), true);
+    }
+
+    /** "0: P, 1: Q, 2: the outcome, 3: the int RETURNED or THROWN (NONE if it ended else), 4: EVENTS recorded, 5: STEPS." */
+    private static void facts() {
+        int[][][] codes = {
+            {i(0, -1), i(32)}, {i(31, 9)}, {i(22, 3)}, {i(21)}, {i(33, 1)}, {i(0, 9), i(26)},
+        };
+        long[] values = {-1, 9, NONE, NONE, NONE, NONE};
+        int[] steps = {5, 4, 150, 4, 7, 5};
+        for (int outcome = 0; outcome < 6; outcome++) {
+            PathExplorer x = Check.program(i(1, 0), i(1, 1), i(24, 3, 0));
+            Check.emit(x, codes[outcome]);
+            x.method(1, 3, 0);
+            x.range(0, -7, -7);
+            x.range(1, 11, 11);
+            Check.due("explore", x.explore(0), 1);
+            long[] facts = {-7, 11, outcome, values[outcome], 1, steps[outcome]};
+            for (int what = 0; what < 6; what++) {
+                Check.due("outcome " + outcome + ": test(0, " + what + ")", x.test(0, what), facts[what]);
+                Check.due("outcome " + outcome + ": test(1, " + what + ")", x.test(1, what), NONE);
+            }
+            Check.due("outcome " + outcome + ": test(0, 6)", x.test(0, 6), NONE);
+        }
     }
 
     private static void outOfRange() {

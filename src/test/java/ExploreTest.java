@@ -5,8 +5,14 @@ public final class ExploreTest {
         order();
         switchSides();
         leastInput();
+        corners();
         infeasible();
+        infeasibleOnce();
+        oneInput();
         fortyTests();
+        lastOfFortyTests();
+        chain();
+        manyTimesForty();
         completeness();
         covered();
         refusals();
@@ -99,6 +105,34 @@ public final class ExploreTest {
         Check.due("nothing INFEASIBLE", pins.count(3), 0);
     }
 
+    /** The first and the last input of the widest RANGES are inputs like all others. */
+    private static void corners() {
+        PathExplorer x = Check.program(
+            i(1, 0), i(0, 15), i(24, 5, 0), i(0, 0), i(32), i(1, 1), i(0, 15), i(24, 3, 0), i(0, 1), i(32));
+        x.range(0, 0, 15);
+        x.range(1, 0, 15);
+        dueInputs("the corners", x, 0, 0, 0, 15, 0, 15, 15);
+        Check.due("nothing INFEASIBLE", x.count(3), 0);
+        x.range(1, 0, 14);
+        dueInputs("Q too short", x, 0, 0, 0, 15, 0);
+        Check.due("Q's way is INFEASIBLE", x.count(3), 1);
+        x.range(1, 15, 15);
+        dueInputs("just one Q", x, 0, 0, 15, 15, 15);
+        Check.due("its other way is INFEASIBLE", x.count(3), 1);
+        x.range(0, 0, 14);
+        dueInputs("P too short", x, 0, 0, 15);
+        Check.due("P's way is INFEASIBLE", x.count(3), 1);
+        PathExplorer sum = Check.program(i(1, 0), i(1, 1), i(3), i(0, 30), i(24, 5, 0), i(0), i(32));
+        sum.range(0, 0, 15);
+        sum.range(1, 0, 15);
+        dueInputs("only the last corner", sum, 1, 0, 0, 15, 15);
+        PathExplorer wrapped = Check.program(i(1, 0), i(1, 1), i(24, 3, 0), i(0), i(32));
+        wrapped.range(0, Integer.MAX_VALUE - 15, Integer.MAX_VALUE);
+        wrapped.range(1, Integer.MIN_VALUE, Integer.MIN_VALUE + 15);
+        dueInputs("no RANGE goes round", wrapped, 1, Integer.MAX_VALUE - 15, Integer.MIN_VALUE);
+        Check.due("so they never meet", wrapped.count(3), 1);
+    }
+
     private static void infeasible() {
         PathExplorer x = Check.program(i(1, 0), i(23, 2, 2), i(1, 0), i(23, 4, 2), i(0), i(32));
         Check.due("one way", x.explore(0), 1);
@@ -111,7 +145,99 @@ public final class ExploreTest {
         Check.due("two INFEASIBLE", x.count(3), 2);
     }
 
+    /** What is INFEASIBLE is TRIED: the next TEST with the same EVENTS before does not count it again. */
+    private static void infeasibleOnce() {
+        PathExplorer x = Check.program(
+            i(1, 0), i(23, 2, 2), i(1, 0), i(23, 4, 0), i(1, 1), i(23, 6, 0), i(0), i(32));
+        for (int way = 0; way < 2; way++) {
+            Check.due("four ways behind one", x.explore(way), 4);
+            Check.due("INFEASIBLE once", x.count(3), 1);
+        }
+        PathExplorer choice = Check.program(i(1, 0), i(25, 2, 9), i(0), i(0), i(0), i(1, 1), i(23, 7, 0), i(0), i(32));
+        Check.due("two ways behind a SWITCH", choice.explore(0), 2);
+        Check.due("three SIDES once each", choice.count(3), 3);
+    }
+
+    /** The smallest RANGES: there is one TEST, and every other SIDE is INFEASIBLE. */
+    private static void oneInput() {
+        PathExplorer x = Check.program(
+            i(1, 0), i(23, 2, 0), i(1, 0), i(25, 4, 0), i(0), i(0), i(0), i(1, 1), i(1, 0), i(6), i(32));
+        x.range(0, 3, 3);
+        x.range(1, 3, 3);
+        for (int way = 0; way < 2; way++) {
+            dueInputs("one input", x, way, 3, 3);
+            Check.due("1, 3 and 1 SIDES", x.count(3), 5);
+            Check.due("one WORK", x.count(6), 1);
+            Check.due("COMPLETE", x.complete(), true);
+        }
+    }
+
+    /** 32 ways if Q is not 0; else P is compared with 0, 1, .. until it is that: one more than there are. */
+    private static PathExplorer manyWays(int comparisons) {
+        PathExplorer x = new PathExplorer();
+        x.method(0, 0, 2);
+        x.range(0, 0, 15);
+        Check.emit(x, i(1, 1), i(23, 24, 0));
+        for (int bit = 0; bit < 4; bit++) {
+            Check.emit(x, i(1, 0), i(0, 1 << bit), i(8), i(23, 4 * bit + 6, 1));
+        }
+        Check.emit(x, i(1, 1), i(0, 2), i(8), i(23, 22, 1), i(0), i(32));
+        Check.emit(x, i(1, 0), i(1, 2), i(24, 22, 0), i(34, 2, 1), i(1, 2), i(0, comparisons), i(24, 24, 2), i(0), i(32));
+        return x;
+    }
+
+    /** "while there is WORK and fewer than 40 TESTS" "if no WORK was left" */
     private static void fortyTests() {
+        int[][] rows = {{5, 38}, {6, 39}, {7, 40}, {8, 40}, {9, 40}};
+        for (int[] row : rows) {
+            for (int way = 0; way < 2; way++) {
+                PathExplorer x = manyWays(row[0]);
+                String name = (33 + row[0]) + " ways, explore(" + way + ")";
+                Check.due(name, x.explore(way), row[1]);
+                Check.due(name + ": count(2)", x.count(2), row[1]);
+                Check.due(name + ": COMPLETE", x.complete(), row[0] <= 7);
+                Check.due(name + ": nothing INFEASIBLE", x.count(3), 0);
+                Check.due(name + ": the last TEST", x.test(row[1] - 1, 2), PathExplorer.RETURNED);
+                Check.due(name + ": its EVENT", x.event(row[1] - 1, 0, 0), 1);
+                Check.due(name + ": one more TEST", x.test(row[1], 2), PathExplorer.NONE);
+                Check.due(name + ": its EVENT", x.event(row[1], 0, 0), PathExplorer.NONE);
+                Check.due(name + ": no TEST 40", x.test(40, 0), PathExplorer.NONE);
+            }
+        }
+    }
+
+    /** The 40th TEST's DECISIONS, too, are turned round. */
+    private static void lastOfFortyTests() {
+        // 64 ways, each with a last DECISION of its own whose other SIDE is INFEASIBLE.
+        PathExplorer x = new PathExplorer();
+        x.method(0, 0, 2);
+        for (int bit = 0; bit < 6; bit++) {
+            Check.emit(x, i(1, bit / 4), i(0, 1 << bit % 4), i(8), i(23, 4 * bit + 4, 1));
+        }
+        Check.emit(x, i(1, 0), i(23, 26, 2), i(0), i(32));
+        x.range(0, 0, 15);
+        for (int way = 0; way < 2; way++) {
+            Check.due("40 of 64", x.explore(way), 40);
+            Check.due("each has one that is INFEASIBLE", x.count(3), 40);
+        }
+    }
+
+    /** P and Q as one number, compared with 0, 1, ..: each TEST has one new way behind it. */
+    private static void chain() {
+        PathExplorer x = Check.program(
+            i(1, 0), i(0, 16), i(5), i(1, 1), i(3), i(2, 0),
+            i(1, 0), i(1, 2), i(24, 13, 0), i(34, 2, 1), i(1, 2), i(0, 19), i(24, 6, 2), i(0), i(32));
+        x.range(0, 0, 15);
+        x.range(1, 0, 15);
+        for (int way = 0; way < 2; way++) {
+            Check.due("a chain of 19 DECISIONS", x.explore(way), 20);
+            Check.due("it is not CUT", x.complete(), true);
+            Check.due("the last is the least by P, then by Q", x.test(19, 0) * 100 + x.test(19, 1), 103);
+            Check.due("one WORK at a time", x.count(6), 1);
+        }
+    }
+
+    private static void manyTimesForty() {
         PathExplorer x = bits(6);
         Check.due("40 of 64", x.explore(0), 40);
         Check.due("WORK is left", x.complete(), false);
@@ -120,23 +246,9 @@ public final class ExploreTest {
         Check.due("40 of 64, oldest first", x.explore(1), 40);
         Check.due("WORK is left", x.complete(), false);
         Check.due("most WORK, oldest first", x.count(6), 23);
+        Check.due("the same again", x.explore(1), 40);
+        Check.due("with as much WORK", x.count(6), 23);
         Check.due("32 of 32", bits(5).explore(0), 32);
-        PathExplorer exact = new PathExplorer();
-        exact.method(0, 0, 2);
-        exact.range(0, 0, 15);
-        Check.emit(exact, i(1, 1), i(23, 24, 0));
-        for (int bit = 0; bit < 4; bit++) {
-            Check.emit(exact, i(1, 0), i(0, 1 << bit), i(8), i(23, 4 * bit + 6, 1));
-        }
-        Check.emit(exact, i(1, 1), i(0, 2), i(8), i(23, 22, 1), i(0), i(32));
-        for (int bit = 0; bit < 3; bit++) {
-            Check.emit(exact, i(1, 0), i(0, 1 << bit), i(8), i(23, 4 * bit + 28, 1));
-        }
-        Check.emit(exact, i(0), i(32));
-        for (int way = 0; way < 2; way++) {
-            Check.due("8 and 32 ways", exact.explore(way), 40);
-            Check.due("no WORK is left", exact.complete(), true);
-        }
     }
 
     private static void completeness() {

@@ -13,10 +13,10 @@ public final class ModelTest {
     private static int pinned = 0;
 
     public static void main(String[] args) {
-        PathExplorer x = new PathExplorer();
+        Subject x = new Subject();
         for (int n = 0; n < PROGRAMS; n++) {
             if (n % 2 == 0) {
-                x = new PathExplorer();
+                x = new Subject();
             }
             compare(n, x);
         }
@@ -36,29 +36,34 @@ public final class ModelTest {
         return generator.below(bound);
     }
 
-    private static void compare(int n, PathExplorer x) {
+    private static void compare(int n, Subject x) {
         Model model = new Model();
-        x.clear();
+        x.change(PathExplorer::clear);
         boolean wild = n % 4 == 0;
         write(x, model, wild ? generator.wild() : generator.tame(), wild);
         for (int way = 0; way < 2; way++) {
             String name = "program " + n + ", explore(" + way + ")";
             compareRun("program " + n, x, model, below(40) - 10, below(12) - 3);
-            Check.due(name, x.explore(way), model.explore(way));
+            int given = way;
+            Check.due(name, x.change(o -> o.explore(given)), model.explore(way));
             compareExplored(name, x, model);
         }
     }
 
-    private static void compareRun(String name, PathExplorer x, Model model, int p, int q) {
+    private static void compareRun(String name, Subject x, Model model, int p, int q) {
         Model.Run run = model.run(p, q);
-        Check.dueRun(name + ", run(" + p + ", " + q + ")", x, p, q, run.outcome, run.value, run.events.size(), run.steps);
+        String call = name + ", run(" + p + ", " + q + ")";
+        Check.due(call, x.change(o -> o.run(p, q)), run.outcome);
+        Check.due(call + ": value", x.ask(PathExplorer::value), run.value);
+        Check.due(call + ": events", x.ask(o -> o.count(4)), run.events.size());
+        Check.due(call + ": steps", x.ask(o -> o.count(5)), run.steps);
     }
 
-    private static void compareExplored(String name, PathExplorer x, Model model) {
-        Check.due(name + ": count(2)", x.count(2), model.tests.size());
-        Check.due(name + ": count(3)", x.count(3), model.infeasible);
-        Check.due(name + ": count(6)", x.count(6), model.mostWork);
-        Check.due(name + ": complete()", x.complete(), model.complete);
+    private static void compareExplored(String name, Subject x, Model model) {
+        Check.due(name + ": count(2)", x.ask(o -> o.count(2)), model.tests.size());
+        Check.due(name + ": count(3)", x.ask(o -> o.count(3)), model.infeasible);
+        Check.due(name + ": count(6)", x.ask(o -> o.count(6)), model.mostWork);
+        Check.due(name + ": complete()", x.ask(o -> o.complete() ? 1 : 0), model.complete ? 1 : 0);
         all += model.tests.size();
         full += model.tests.size() == 40 ? 1 : 0;
         whole += model.complete ? 1 : 0;
@@ -72,28 +77,30 @@ public final class ModelTest {
             int instruction = below(model.code.size());
             int side = below(4);
             Check.due(name + ": covered(" + instruction + ", " + side + ")",
-                x.covered(instruction, side), model.covered(instruction, side));
+                x.ask(o -> o.covered(instruction, side) ? 1 : 0), model.covered(instruction, side) ? 1 : 0);
         }
     }
 
-    private static void compareTest(String name, PathExplorer x, int k, Model.Run test, int[] input) {
+    private static void compareTest(String name, Subject x, int k, Model.Run test, int[] input) {
         long[] facts = {input[0], input[1], test.outcome, test.value, test.events.size(), test.steps};
         for (int what = 0; what < facts.length; what++) {
-            Check.due(name + ": test(" + k + ", " + what + ")", x.test(k, what), facts[what]);
+            int fact = what;
+            Check.due(name + ": test(" + k + ", " + what + ")", x.ask(o -> o.test(k, fact)), facts[what]);
         }
         for (int i = 0; i < test.events.size(); i++) {
+            int n = i;
             Model.Event event = test.events.get(i);
             pinned += event.pin() ? 1 : 0;
             String call = name + ": event(" + k + ", " + i + ", ";
-            Check.due(call + "0)", x.event(k, i, 0), event.instruction());
-            Check.due(call + "1)", x.event(k, i, 1), event.number());
-            Check.due(call + "2)", x.event(k, i, 2), event.pin() ? 1 : 0);
+            Check.due(call + "0)", x.ask(o -> o.event(k, n, 0)), event.instruction());
+            Check.due(call + "1)", x.ask(o -> o.event(k, n, 1)), event.number());
+            Check.due(call + "2)", x.ask(o -> o.event(k, n, 2)), event.pin() ? 1 : 0);
         }
     }
 
-    private static void write(PathExplorer x, Model model, List<int[]> code, boolean wild) {
+    private static void write(Subject x, Model model, List<int[]> code, boolean wild) {
         for (int[] row : code) {
-            Check.due("emit " + row[0], x.emit(row[0], row[1], row[2]), model.code.size());
+            Check.due("emit " + row[0], x.change(o -> o.emit(row[0], row[1], row[2])), model.code.size());
             model.code.add(row);
         }
         int length = code.size();
@@ -101,20 +108,22 @@ public final class ModelTest {
             if (m == 0 || below(4) > 0) {
                 int start = m == 0 && below(8) > 0 ? 0 : wild ? below(length) : generator.start();
                 int arguments = m == 0 ? 2 : m == 1 ? 1 : below(3);
-                Check.due("method", x.method(m, start, arguments), 0);
+                int number = m;
+                Check.due("method", x.change(o -> o.method(number, start, arguments)), 0);
                 model.methods.put(m, new int[] {start, arguments});
             }
         }
         for (int h = below(4); h > 0; h--) {
             int place = wild ? below(length + 1) : generator.start();
             int[] row = {below(length), below(length + 1), place, below(3) > 0 ? 0 : below(10)};
-            Check.due("handler", x.handler(row[0], row[1], row[2], row[3]), model.handlers.size());
+            Check.due("handler", x.change(o -> o.handler(row[0], row[1], row[2], row[3])), model.handlers.size());
             model.handlers.add(row);
         }
         for (int r = 0; r < 2; r++) {
             int lo = below(12) == 0 ? Integer.MAX_VALUE - 15 : below(8) - 6;
             int hi = lo + (below(3) > 0 ? 15 - below(4) : below(6));
-            Check.due("range", x.range(r, lo, hi), 0);
+            int number = r;
+            Check.due("range", x.change(o -> o.range(number, lo, hi)), 0);
             model.ranges[r][0] = lo;
             model.ranges[r][1] = hi;
         }
