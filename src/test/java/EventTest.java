@@ -146,6 +146,11 @@ public final class EventTest {
         dueEvents("a bound cell at a pinned place", pinned, 0, 5, 6, 0, 0, 6, 0, 1, 9, 0, 0, 9, 0, 1, 10, 0, 0);
         PathExplorer fresh = Check.program(i(1, 0), i(26), i(0), i(27), i(23, 5), i(0), i(32));
         dueEvents("a cell of an array of a pinned length", fresh, 1, 0, 1, 0, 0, 1, 1, 1);
+        PathExplorer again = Check.program(
+            i(0, 1), i(26), i(2, 2), i(1, 2), i(0), i(27), i(23, 7), i(1, 2), i(0), i(1, 0), i(28), i(0), i(32));
+        for (int runs = 0; runs < 2; runs++) {
+            dueEvents("a cell that was bound in the RUN before", again, 1, 0);
+        }
         PathExplorer copy = Check.program(i(1, 0), i(18), i(26), i(21), i(23, 5), i(0), i(32));
         dueEvents("a copy of what NEW takes", copy, 2, 0, 2, 0, 0, 2, 2, 1, 4, 0, 0);
         PathExplorer place = Check.program(i(0, 3), i(26), i(1, 0), i(19), i(27), i(21), i(23, 7), i(0), i(32));

@@ -13,6 +13,7 @@ public final class ExploreTest {
         lastOfFortyTests();
         chain();
         manyTimesForty();
+        fullTable();
         completeness();
         covered();
         refusals();
@@ -251,6 +252,39 @@ public final class ExploreTest {
         Check.due("32 of 32", bits(5).explore(0), 32);
     }
 
+    /** 40 TESTS with 20 EVENTS each: eight bits of the input, and twelve times that P is not below 0. */
+    private static void fullTable() {
+        for (int way = 0; way < 2; way++) {
+            Subject x = new Subject();
+            x.change(o -> o.method(0, 0, 2));
+            for (int n = 0; n < 32; n++) {
+                int bit = n / 4;
+                int[][] rows = {i(1, bit / 4, 0), i(0, 1 << bit % 4, 0), i(8, 0, 0), i(23, n + 1, 1)};
+                int[] row = rows[n % 4];
+                x.change(o -> o.emit(row[0], row[1], row[2]));
+            }
+            x.change(o -> o.emit(1, 0, 0));
+            x.change(o -> o.emit(23, 32, 3));
+            x.change(o -> o.range(0, 0, 15));
+            x.change(o -> o.range(1, 0, 15));
+            int given = way;
+            Check.due("40 of 256", x.change(o -> o.explore(given)), 40);
+            Check.due("twelve INFEASIBLE for each", x.ask(o -> o.count(3)), 480);
+            for (int test = 0; test < 40; test++) {
+                int k = test;
+                long bits = x.ask(o -> o.test(k, 0)) + 16 * x.ask(o -> o.test(k, 1));
+                for (int event = 0; event < 20; event++) {
+                    int n = event;
+                    String name = "event(" + k + ", " + n + ", ";
+                    Check.due(name + "0)", x.ask(o -> o.event(k, n, 0)), n < 8 ? 4 * n + 3 : 33);
+                    Check.due(name + "1)", x.ask(o -> o.event(k, n, 1)), n < 8 ? bits >> n & 1 : 1);
+                    Check.due(name + "2)", x.ask(o -> o.event(k, n, 2)), 0);
+                }
+                Check.due("event(" + k + ", 20, 0)", x.ask(o -> o.event(k, 20, 0)), PathExplorer.NONE);
+            }
+        }
+    }
+
     private static void completeness() {
         PathExplorer broken = Check.program(i(1, 0), i(23, 1, 4), i(0), i(32));
         broken.explore(0);
@@ -341,8 +375,12 @@ public final class ExploreTest {
         Check.due("its INFEASIBLE ones", x.count(3), 1);
         Check.due("its WORK", x.count(6), 1);
         Check.due("it is COMPLETE", x.complete(), true);
-        Check.due("its DECISION", x.covered(1, 0), true);
-        Check.due("none of the one before", x.covered(3, 0), false);
+        for (int instruction = 0; instruction < 26; instruction++) {
+            for (int side = 0; side < 4; side++) {
+                Check.due("covered(" + instruction + ", " + side + ") by its DECISION alone",
+                    x.covered(instruction, side), instruction == 1 && side == 0);
+            }
+        }
         x.range(0, -1, 0);
         dueInputs("the same PROGRAM is tried anew", x, 0, -1, 0, 0, 0);
         Check.due("nothing INFEASIBLE", x.count(3), 0);

@@ -84,6 +84,12 @@ public final class FrameTest {
             i(1, 2), i(1, 3), i(3), i(30), i(2, 2), i(1, 0), i(2, 3), i(18), i(23, 9), i(32));
         Check.dueRun("the ENTRY's locals", runs, 33, 0, RETURNED, 0, 0, 10);
         Check.dueRun("the ENTRY's locals in the next RUN", runs, 33, 0, RETURNED, 0, 0, 10);
+        PathExplorer stored = Check.program(
+            i(1, 2), i(2, 3), i(0, 1), i(26), i(0), i(0, 77), i(28), i(0), i(0), i(33, 1), i(1, 3), i(3), i(32),
+            i(1, 2), i(32));
+        stored.method(1, 13, 2);
+        Check.dueRun("the third VALUE of an ASTORE is no local of the METHOD", stored, 0, 0, RETURNED, 0, 0, 15);
+        Check.dueRun("nor of the ENTRY in the next RUN", stored, 0, 0, RETURNED, 0, 0, 15);
     }
 
     private static void freshStacks() {
