@@ -32,8 +32,9 @@ public final class FrameTest {
         for (int m = 1; m < 4; m++) {
             for (int count = 0; count <= 2; count++) {
                 for (int local = 0; local < 4; local++) {
+                    // CALL has no use for its b: no local is changed by it.
                     PathExplorer x = Check.program(
-                        i(0, 71), i(0, 72), i(33, m), i(32), i(1, local), i(32));
+                        i(0, 71), i(0, 72), i(33, m, 1000), i(32), i(1, local), i(32));
                     x.method(m, 4, count);
                     Check.dueRun("local " + local + " of " + count + " arguments", x, 5, 6,
                         RETURNED, locals[count][local], 0, 6);
